@@ -19,7 +19,8 @@ public final class CatDoors {
     private static final int MOST_PRESS = 199;
     private static final int MOST_OF_FLOATS = 99999;
 
-    private static final int ASKING = 0, TURNED = 1, RAINED = 2, FRIGHTENED = 3, DAWN = 4, FEIGNED = 5, KINDS = 6;
+    // Kind 0 is a plain asking: what has no case of its own does as that one.
+    private static final int TURNED = 1, RAINED = 2, FRIGHTENED = 3, DAWN = 4, FEIGNED = 5, KINDS = 6;
     private static final int[] KIND_ABOVE = {-1, 0, 0, 1, 2, 0};
     private static final int[] LEARNS = {8, 3, 8, 12, 16, 15};
     private static final int[] FORGETS = {4, 6, 4, 6, 1, 9};

@@ -67,6 +67,8 @@ public final class AskingsTest {
     int[][] wrong = {{-1, 0}, {6, 0}, {0, -1}, {0, 6}, {6, 6}};
     for (int[] w : wrong) due.is(4, "as(" + w[0] + ", " + w[1] + ")", x.as(w[0], w[1]), BAD);
     for (int[] w : wrong) due.is(5, "turns(" + w[0] + ", " + w[1] + ")", x.turns(w[0], w[1]), BAD);
+    due.is(5, "turns(2, 5)", x.turns(2, 5), 2);
+    due.is(5, "turns(2, 0)", x.turns(2, 0), 5);
     due.is(5, "turns(4, 3)", x.turns(4, 3), 4);
     due.is(5, "turns(4, 3) again", x.turns(4, 3), 3);
     due.is(5, "as(4, 1)", x.as(4, 1), 44);

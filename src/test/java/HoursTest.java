@@ -128,6 +128,8 @@ public final class HoursTest {
     due.is(12, "23 comes first: house(7)", x.house(7), 4);
     x.set(0, 1, 10);
     due.is(12, "this hour counts: house(7)", x.house(7), 1);
+    x.set(0, 2, 1);
+    due.is(12, "any habit: house(7)", x.house(7), 1);
   }
 
   /** What is thought of is what comes, and thinking changes nothing. */
@@ -210,6 +212,15 @@ public final class HoursTest {
     for (int[] w : given) due.is(16, "givenIn(" + w[0] + ", " + w[1] + ")", x.givenIn(w[0], w[1]), BAD);
     int[][] heard = {{0, 0}, {101, 0}, {1, -1}, {1, 2}};
     for (int[] w : heard) due.is(17, "heard(" + w[0] + ", " + w[1] + ")", x.heard(w[0], w[1]), BAD);
+    x.rule(0, 99);
+    for (int n : new int[] {1, 100}) {
+      due.is(13, "behind(" + n + ", 0)", x.behind(n, 0), 0);
+      due.holds(16, "givenIn(" + n + ", 1)", x.givenIn(n, 1) > BAD + 100);
+      due.is(17, "heard(" + n + ", 0)", x.heard(n, 0), 0);
+      due.is(17, "heard(" + n + ", 1)", x.heard(n, 1), 0);
+      due.is(18, "lamp(" + n + ")", x.lamp(n), n);
+      due.is(19, "saved(" + n + ")", x.saved(n), 0);
+    }
     due.is(22, "fine(2)", x.fine(2), BAD);
     due.is(22, "fine(-1)", x.fine(-1), BAD);
   }

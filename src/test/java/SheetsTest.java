@@ -71,6 +71,15 @@ public final class SheetsTest {
     due.is(30, "HABIT 3", x.told(3, 2), 12);
     for (int s : new int[] {-1, 4}) due.is(30, "pour(" + s + ")", x.pour(s), BAD);
     due.is(30, "pour(2)", x.pour(2), NOTHING);
+    x.sheet(3, 0, 1);
+    x.mark(3, 0, 44);
+    due.is(30, "pour(3)", x.pour(3), 1);
+    due.is(30, "HABIT 0", x.told(0, 2), 44);
+    due.is(31, "reads(3)", x.reads(3), 0);
+    due.is(32, "copy of the last", x.copy(3, 0, 3, 0, 1), 1);
+    due.is(33, "lay of the last", x.lay(0, 2, 3), 0);
+    due.is(28, "shorts anew", x.sheet(3, 0, 1), 1);
+    due.is(28, "all 0", place(x, 3, 0), 0);
     x.sheet(0, 1, 6);
     for (int i = 0; i < 6; i++) x.mark(0, i, i);
     due.is(31, "places that are no asking", x.reads(0), 4);
@@ -109,6 +118,7 @@ public final class SheetsTest {
     due.is(32, "from a missing one", x.copy(3, 0, 2, 0, 1), NOTHING);
     due.is(32, "to a missing one", x.copy(2, 0, 3, 0, 1), NOTHING);
     due.is(32, "copy(4, ..)", x.copy(4, 0, 3, 0, 1), BAD);
+    due.is(32, "copy(.., 4, ..)", x.copy(0, 0, 4, 0, 1), BAD);
     due.is(32, "copy(.., -1, ..)", x.copy(3, 0, -1, 0, 1), BAD);
     x.mark(2, 0, NONE);
     due.is(32, "no number too", x.copy(2, 0, 2, 2, 1), 1);

@@ -46,6 +46,8 @@ public final class TextsTest {
     gives("fee 2=2", 1);
     gives("fee 3>2", 1);
     gives("fee 2>3", 0);
+    gives("fee 2>2", 0);
+    gives("fee 1&1", 1);
     gives("fee 1+1=2", 1);
     gives("fee 2&4", 1);
     gives("fee 2&0", 0);
@@ -85,6 +87,10 @@ public final class TextsTest {
     fault("fee", 3);
     fault("fee  ", 5);
     fault("fees 1", 0);
+    fault("gee 1", 0);
+    fault("fee a", 4);
+    fault("fee 1za", 5);
+    fault("fee za", 4);
     fault(" Fee 1", 1);
     fault("1 fee", 0);
     fault("fee1", 3);
@@ -152,6 +158,7 @@ public final class TextsTest {
     due.is(25, "count(8)", x.count(8), 14);
     due.is(25, "fee() as before", x.fee(), 13);
     due.is(27, "why(1)", x.why(1), 13);
+    due.is(18, "a thought with all texts", x.lamp(1), 1);
     x.back();
     due.is(40, "count(8)", x.count(8), 3);
     due.is(40, "why(1)", x.why(1), NONE);
