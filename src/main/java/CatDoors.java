@@ -217,7 +217,7 @@ public final class CatDoors {
             if (thought.habitSum() == 0) {
                 return passed;
             }
-            thought.passHour();
+            thought.passHours(1);
         }
         return NONE;
     }
@@ -283,7 +283,7 @@ public final class CatDoors {
         thought.takes(now);
         int inside = 0;
         for (int i = 0; i < n; i++) {
-            thought.passHour();
+            thought.passHours(1);
             if (thought.rules[CAT] == IN) {
                 inside++;
             }
@@ -591,7 +591,7 @@ public final class CatDoors {
         for (int i = 0; i < due; i++) {
             boolean first = i % 2 == 0;
             if (first) {
-                thought.passHour();
+                thought.passHours(1);
             }
             int wanted = first ? thought.habitSum() : thought.tallies[RISINGS];
             if (i >= given || waiting[i] != wanted) {
@@ -791,25 +791,27 @@ public final class CatDoors {
         }
 
         void passHours(int n) {
-            for (int i = 0; i < n; i++) {
-                passHour();
+            for (int passed = 0; passed < n; passed++) {
+                drawsWeather();
+                for (int i = 0; i < many; i++) {
+                    if (asksNow(askings[i])) {
+                        hears(askings[i]);
+                    }
+                }
+                if (rules[FLAP] == 1 && rules[THREAT] == 1) {
+                    tallies[STRANGERS]++;
+                }
+                hour++;
             }
         }
 
-        void passHour() {
+        void drawsWeather() {
             rules[WET] = drawsBelow(rules[RAIN]) ? 1 : 0;
             rules[THREAT] = drawsBelow(rules[TOM]) ? 1 : 0;
-            int hourOfDay = hour % DAY;
-            for (int i = 0; i < many; i++) {
-                Asking one = askings[i];
-                if (one.hour == hourOfDay && drawsBelow(one.habit)) {
-                    hears(one);
-                }
-            }
-            if (rules[FLAP] == 1 && rules[THREAT] == 1) {
-                tallies[STRANGERS]++;
-            }
-            hour++;
+        }
+
+        boolean asksNow(Asking one) {
+            return one.hour == hour % DAY && drawsBelow(one.habit);
         }
 
         void hears(Asking one) {
