@@ -4,8 +4,13 @@ public final class EdgesAskingsTest {
   private static final int LOW = Integer.MIN_VALUE, HIGH = Integer.MAX_VALUE;
   private static final Due due = new Due("EdgesAskingsTest");
 
+  /** So many askings, an image without them, a number that waits, a tape and a slot that is used. */
   private static CatDoors withAskings(int many) {
     CatDoors x = new CatDoors();
+    x.keep();
+    x.tell(7);
+    x.feed(1, 2, 3);
+    x.lay(0, 3, 5);
     for (int i = 0; i < many; i++) x.asking(i % 6, i, 10 + i, 20 + i);
     return x;
   }
@@ -318,10 +323,12 @@ public final class EdgesAskingsTest {
 
   // Terms 1, MEANS IT: "FRIGHTENED: 100, if the CAT is OUT, else as TURNED."
   static void terms1FrightenedMeansItWhenOut() {
-    CatDoors x = withOne(3, 9, 1);
-    due.is(3, "IN", x.told(0, 9), 0);
+    CatDoors x = withOne(3, 9, 99);
+    due.is(3, "IN", x.told(0, 9), 49);
     x.rule(6, 1);
-    due.is(3, "IN, a THREAT", x.told(0, 9), 0);
+    due.is(3, "IN, a THREAT", x.told(0, 9), 49);
+    x.set(0, 3, 1);
+    due.is(3, "IN, MEANS 1", x.told(0, 9), 0);
     x.rule(4, 1);
     due.is(3, "OUT", x.told(0, 9), 100);
   }

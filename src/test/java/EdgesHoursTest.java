@@ -337,6 +337,7 @@ public final class EdgesHoursTest {
     due.is(8, "IN", x.house(0), 0);
     due.is(8, "LEFT", x.house(3), 1);
     due.is(8, "CAME", x.house(4), 1);
+    due.is(8, "no STRANGERS", x.house(5), 0);
   }
 
   // Terms 2: "ASKINGS by numbers": one that goes first changes where the CAT is for the next of the same hour.
@@ -373,6 +374,8 @@ public final class EdgesHoursTest {
     x.rule(3, flap);
     x.rule(6, 1);
     x.hours(1);
+    due.is(11, "none left", x.house(3), 0);
+    due.is(11, "none came", x.house(4), 0);
     return x.house(5);
   }
 
@@ -403,6 +406,10 @@ public final class EdgesHoursTest {
   private static CatDoors lived() {
     CatDoors x = new CatDoors();
     x.deal(5);
+    x.keep();
+    x.tell(7);
+    x.feed(1, 2, 3);
+    x.lay(0, 1, 0);
     x.hours(30);
     return x;
   }

@@ -8,6 +8,7 @@ public final class EdgesSheetsTest {
   /** Askings 0 .. 5 of all kinds; sheets: 0 shorts 1 2 3, 1 floats 7 NO NUMBER 9, 2 missing, 3 floats without places; slots: 0 an asking (FRIGHTENED), 1 sheet 1, 2 the number -17, 3 and 4 nothing. */
   private static CatDoors furnished() {
     CatDoors x = new CatDoors();
+    x.keep();
     for (int kind = 0; kind < 6; kind++) x.asking(kind, kind, 10 + kind, 50);
     x.sheet(0, 0, 3);
     x.sheet(1, 1, 3);
@@ -19,6 +20,8 @@ public final class EdgesSheetsTest {
     x.lay(0, 1, 3);
     x.lay(1, 2, 1);
     x.lay(2, 3, -17);
+    x.tell(7);
+    x.feed(1, 2, 3);
     return x;
   }
 

@@ -25,6 +25,9 @@ public final class EdgesTextsTest {
 
   private static CatDoors withTexts(int many) {
     CatDoors x = new CatDoors();
+    x.keep();
+    x.tell(7);
+    x.lay(0, 3, 5);
     for (int i = 0; i < many; i++) Due.text(x, "fee " + i);
     return x;
   }
@@ -96,7 +99,7 @@ public final class EdgesTextsTest {
     due.is(25, "fee", Due.text(x, "fee 1"), 1);
     due.is(25, "fine", Due.text(x, "fine 1"), 2);
     for (int t = 0; t < 3; t++) due.is(26, "textTold(" + t + ", 0)", x.textTold(t, 0), t);
-    for (String word : new String[] {"pres", "presss", "fe", "feee", "fin", "fines", "Fee", "f", "fees", "h", "1", "("}) fault(word + " 1", 0);
+    for (String word : new String[] {"pres", "presss", "fe", "feee", "fin", "fines", "Fee", "f", "fees", "gee", "bress", "dine", "feed", "h", "1", "("}) fault(word + " 1", 0);
   }
 
   // Terms 4: "KEY E.": a KEY alone ends too soon, two KEYS are one too many.
@@ -263,6 +266,8 @@ public final class EdgesTextsTest {
     fault("fee" + (char) ('9' + 1) + "1", 3);
     gives("fee 09", 9);
     fault("fee az", 4);
+    fault("feea 1", 0);
+    fault("feez 1", 0);
     fault("FEE 1", 0);
     fault("fee R", 4);
   }

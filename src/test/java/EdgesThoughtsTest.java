@@ -12,9 +12,13 @@ public final class EdgesThoughtsTest {
     return x;
   }
 
-  /** Five askings and a sheet, THE HOUR as told; but for THE HOUR's days all is the same, whatever it is. */
+  /** Five askings, a sheet, an image and some of all else, THE HOUR as told; but for THE HOUR's days all is the same, whatever it is. */
   private static CatDoors livelyAt(int hour) {
     CatDoors x = lateBy(hour);
+    x.keep();
+    x.tell(7);
+    x.feed(1, 2, 3);
+    x.lay(0, 3, 5);
     x.seed(4321);
     x.deal(3);
     x.asking(0, 16, 99, 100);
@@ -670,6 +674,7 @@ public final class EdgesThoughtsTest {
   static void promise22Bad() {
     for (int a : new int[] {-1, 5, LOW, HIGH}) due.refuses(22, "fine(" + a + ")", EdgesThoughtsTest::lively, x -> x.fine(a), BAD);
     CatDoors x = lively();
+    x.trim(0);
     Due.text(x, "fine 7");
     due.is(22, "fine(5)", x.fine(5), BAD);
     due.is(22, "fine(4)", x.fine(4), 7);
