@@ -227,13 +227,13 @@ public final class CatDoors {
             return BAD;
         }
         int best = 0;
-        int least = Integer.MAX_VALUE;
+        int least = 0;
         for (int patience = 0; patience <= MOST_PATIENCE; patience++) {
             thought.takes(now);
             thought.rules[PATIENCE] = patience;
             thought.passHours(n);
             int habits = thought.habitSum();
-            if (habits < least) {
+            if (patience == 0 || habits < least) {
                 least = habits;
                 best = patience;
             }
@@ -262,13 +262,13 @@ public final class CatDoors {
             return NONE;
         }
         int best = 0;
-        int fewest = Integer.MAX_VALUE;
+        int fewest = 0;
         for (int i = 0; i < now.many; i++) {
             thought.takes(now);
             thought.askings[i].habit = 0;
             thought.passHours(n);
             int risings = thought.tallies[RISINGS];
-            if (risings < fewest) {
+            if (i == 0 || risings < fewest) {
                 fewest = risings;
                 best = i;
             }

@@ -22,6 +22,12 @@ final class Due {
 
   void holds(int promise, String what, boolean held) { is(promise, what, held ? 1 : 0, 1); }
 
+  void rule(int rule, String what, boolean held) {
+    if (held) return;
+    wrong++;
+    System.out.println("rule " + rule + " of LANGUAGE.md: it does not hold that " + what);
+  }
+
   /** Runs every edge of a class: its methods without parameters whose names begin with face, terms or promise. */
   void runs(Class<?> edges) {
     Method[] all = edges.getDeclaredMethods();
